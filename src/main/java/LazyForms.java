@@ -1098,7 +1098,8 @@ public final class LazyForms {
                     return slot;
                 }
             }
-            int k = program ? definedHere(at) : definitions.names.find(tokens.text, tokens.place(at), tokens.sizes.get(at));
+            int length = tokens.sizes.get(at);
+            int k = program ? definedHere(at) : definitions.names.find(tokens.text, tokens.place(at), length);
             demand(k != NONE);
             return SLOTS + k;
         }
@@ -1308,7 +1309,7 @@ public final class LazyForms {
         }
     }
 
-    /** Works a question out: a step works out the next ex or part; then things come back to frames until one is next. */
+    /** Works a question out: a step works out the next ex or part; then things come back until another one is next. */
     private static final class Machine {
         private static final int STEPS = 1;
         private static final int CELLS_MADE = 2;
@@ -1817,6 +1818,9 @@ public final class LazyForms {
                 print('(');
             }
             printMaker(maker);
+            if (state != GOING) {
+                return;
+            }
             if (parts != 0 && depth - level > 1) {
                 if (push(Frames.SHOWN, NONE, parts)) {
                     frames.boxes.copy(cells.boxes, valueOf(back), frames.top(), parts);
