@@ -606,6 +606,11 @@ public final class PromisesTest {
         for (int what : new int[] {-1, 10, Integer.MIN_VALUE, Integer.MAX_VALUE}) {
             due("about " + what, t.x.about(what), -1);
         }
+        t.asked("5+6", 1);
+        t.x.run(1);
+        due("no place while it goes on", t.x.about(7), -1);
+        t.x.run(9);
+        due("no place when it is done", t.x.about(7), -1);
         PromisesTest u = house(30, "p=K(1+q)(2);q=1/0;");
         u.asked("p", 2);
         due("WRONG", u.x.run(20000), 4);
