@@ -1,22 +1,12 @@
 import java.lang.reflect.Member;
 import java.lang.reflect.Modifier;
-import java.nio.charset.StandardCharsets;
 import java.util.Arrays;
 import java.util.List;
 import java.util.Random;
 import java.util.stream.Stream;
 
 /** Each promise by runs of calls whose answers were worked out by hand. */
-public final class PromisesTest {
-    private static int wrong = 0;
-    private static String about = "";
-
-    private LazyForms x;
-
-    private PromisesTest(int room) {
-        x = new LazyForms(room);
-    }
-
+public final class PromisesTest extends Checks {
     public static void main(String[] args) {
         face();
         newObject();
@@ -38,68 +28,11 @@ public final class PromisesTest {
         octets();
         definitions();
         anyArguments();
-        System.out.println(wrong == 0 ? "all answers are as due" : wrong + " answers are not as due");
-        if (wrong != 0) {
-            System.exit(1);
-        }
-    }
-
-    private static void due(String call, Object got, Object want) {
-        if (!want.equals(got)) {
-            wrong++;
-            System.out.println(about + ": " + call + " answered " + got + ", due is " + want);
-        }
-    }
-
-    private static PromisesTest house(int room, String program) {
-        PromisesTest house = new PromisesTest(room);
-        house.tape(program);
-        due("load " + program, house.x.load(program.length()) >= 0, true);
-        return house;
-    }
-
-    private void tape(String text) {
-        byte[] b = Arrays.copyOf(text.getBytes(StandardCharsets.ISO_8859_1), (text.length() + 19) / 20 * 20);
-        for (int i = 0; i < b.length; i += 20) {
-            x.feed(word(b, i), word(b, i + 4), word(b, i + 8), word(b, i + 12), word(b, i + 16));
-        }
-    }
-
-    private static int word(byte[] b, int i) {
-        return (b[i] & 255) << 24 | (b[i + 1] & 255) << 16 | (b[i + 2] & 255) << 8 | b[i + 3] & 255;
-    }
-
-    private PromisesTest asked(String text, int depth) {
-        tape(text);
-        due("ask " + text, x.ask(text.length(), depth), true);
-        return this;
-    }
-
-    private String shown() {
-        StringBuilder all = new StringBuilder();
-        for (int i = 0; i < x.about(9); i++) {
-            all.append((char) x.octet(i));
-        }
-        return all.toString();
-    }
-
-    /** A question that ends within 20,000 steps. */
-    private void ends(String question, int depth, int state, String shown) {
-        asked(question, depth);
-        due("run of " + question, x.run(20000), state);
-        due("about(0) of " + question, x.about(0), state);
-        due("what is shown of " + question, shown(), shown);
-    }
-
-    private void endsAt(String question, int state, int place, int steps) {
-        ends(question, 1, state, "");
-        due("place of " + question, x.about(7), place);
-        due("steps of " + question, x.about(1), steps);
-        due("frames behind " + question, x.about(5), 0);
+        finish();
     }
 
     private static void face() {
-        about = "the public face";
+        about("the public face");
         Stream<Member> members = Stream.of(Arrays.<Member>asList(LazyForms.class.getDeclaredMethods()),
             Arrays.<Member>asList(LazyForms.class.getDeclaredFields()), Arrays.<Member>asList(LazyForms.class.getDeclaredConstructors()))
             .flatMap(List::stream);
@@ -119,23 +52,19 @@ public final class PromisesTest {
         due("final", Modifier.isFinal(LazyForms.class.getModifiers()), true);
     }
 
-    private static String towers(int cells) {
-        return "let t=" + "K(".repeat(cells - 1) + "K 1" + ")".repeat(cells - 1) + " in t";
-    }
-
     private static void newObject() {
-        about = "promise 1";
+        about("promise 1");
         for (int room : new int[] {Integer.MIN_VALUE, -1, 0, 9, 10}) {
-            house(room, "").ends(towers(10), 1, 2, "K .");
-            house(room, "").endsAt(towers(11), 5, 0, 1);
+            House.house(room, "").ends("let t=" + House.tower(10) + " in t", 1, 2, "K .");
+            House.house(room, "").endsAt("let t=" + House.tower(11) + " in t", 5, 0, 1);
         }
-        house(11, "").ends(towers(11), 1, 2, "K .");
+        House.house(11, "").ends("let t=" + House.tower(11) + " in t", 1, 2, "K .");
         String list = "lst a n = case n of {0 -> a; _ -> case n-1 of {m -> lst (Cons m a) m}};";
         for (int room : new int[] {1500, 1501, Integer.MAX_VALUE}) {
-            house(room, list).ends("lst Nil 1500", 1, 2, "Cons . .");
-            house(room, list).ends("lst Nil 1501", 1, 5, "");
+            House.house(room, list).ends("lst Nil 1500", 1, 2, "Cons . .");
+            House.house(room, list).ends("lst Nil 1501", 1, 5, "");
         }
-        house(1499, list).ends("lst Nil 1500", 1, 5, "");
+        House.house(1499, list).ends("lst Nil 1500", 1, 5, "");
         LazyForms x = new LazyForms(50);
         for (int what = -1; what < 30; what++) {
             due("about " + what, x.about(what), what >= 0 && what <= 9 && what != 7 ? 0 : -1);
@@ -150,7 +79,7 @@ public final class PromisesTest {
     }
 
     private static void feed() {
-        about = "promise 2";
+        about("promise 2");
         LazyForms x = new LazyForms(10);
         for (int i = 1; i <= 100; i++) {
             due("feed " + i, x.feed(0x20202020, 0x20202020, 0x20202020, 0x0A0A0A0A, 0x20202020), 20 * i);
@@ -168,8 +97,8 @@ public final class PromisesTest {
     }
 
     private static void load() {
-        about = "promise 3";
-        PromisesTest t = new PromisesTest(20);
+        about("promise 3");
+        House t = new House(20);
         t.tape("a=1;b x=a;");
         due("load below", t.x.load(-1), -2);
         due("load beyond", t.x.load(21), -2);
@@ -201,153 +130,145 @@ public final class PromisesTest {
         due("load without an end of line", t.x.load(23), 1);
     }
 
-    private static void faulty(String text, int kind, int place) {
-        PromisesTest t = new PromisesTest(20);
-        t.tape(text);
-        due("load " + text, t.x.load(text.length()) == -1, kind != 0);
-        due("fault of " + text, t.x.fault(0), kind);
-        due("place in " + text, t.x.fault(1), place);
-    }
-
     private static void grammarFaults() {
-        about = "promise 3, grammar";
+        about("promise 3, grammar");
         for (String good : new String[] {"", " \n", "-- a", "a=1;", "a=0;", "a=123456789;", "abcdefghijkl=1;", "aB_9=A_b9;", "a=1--=\n;", "f f=f;",
             "a=\\x->x;", "a=let b=1;c d=b in c;", "a=case 1 of{K->1;K b _->b;-1->2;0->1;b->b;_->3};", "a=1+2-3*4/5<6;", "a=1<=2;", "a=1==2;",
             "a=(a)(a)1K;", "a=1a;", "lets=1;a=lets;", "a=let b=1in b;", "a--x\n=1;", "a=case 1 of{K _b->b};", "a=-- \u0001\u00ff\n1;"}) {
-            faulty(good, 0, -1);
+            House.faulty(good, 0, -1);
         }
-        faulty("a=1", 1, 3);
-        faulty("a=1 -- b", 1, 8);
-        faulty("a=;", 1, 2);
-        faulty("=1;", 1, 0);
-        faulty("a=1;;", 1, 4);
-        faulty("A=1;", 1, 0);
-        faulty("a=007;", 1, 2);
-        faulty("a=00;", 1, 2);
-        faulty("a=1234567890;", 1, 2);
-        faulty("abcdefghijklm=1;", 1, 0);
-        faulty("a=Abcdefghijklm;", 1, 2);
-        faulty("let=1;", 1, 0);
-        faulty("a=in;", 1, 2);
-        faulty("a=1<2<3;", 1, 5);
-        faulty("a=1 + \\x->x;", 1, 6);
-        faulty("a=#;", 1, 2);
-        faulty("a=\t1;", 1, 2);
-        faulty("a=\r\n1;", 1, 2);
-        faulty("a=-1;", 1, 2);
-        faulty("a=1-->2;", 1, 8);
-        faulty("a=1>2;", 1, 3);
-        faulty("a=\\->1;", 1, 3);
-        faulty("a=\\_->1;", 1, 3);
-        faulty("a=\\x y 1;", 1, 7);
-        faulty("a=();", 1, 3);
-        faulty("a=(1;", 1, 4);
-        faulty("a=1);", 1, 3);
-        faulty("a=let in 1;", 1, 6);
-        faulty("a=let b=1; in b;", 1, 11);
-        faulty("a=let b=1 b;", 1, 12);
-        faulty("a=let b=1 of b;", 1, 10);
-        faulty("a=let B=1 in 1;", 1, 6);
-        faulty("a=case 1 of 2;", 1, 12);
-        faulty("a=case 1 of {};", 1, 13);
-        faulty("a=case 1 of {1->1;};", 1, 18);
-        faulty("a=case 1 of {-a->1};", 1, 14);
-        faulty("a=case 1 of {a b->1};", 1, 15);
-        faulty("a=case 1 of {K 1->1};", 1, 15);
-        faulty("a=case 1 of {_a->1};", 1, 14);
-        faulty("a=case 1 {1->1};", 1, 9);
-        faulty("a=1+;", 1, 4);
-        faulty("a=_;", 1, 2);
-        faulty("a=1_;", 1, 3);
-        faulty("a==1;", 1, 1);
-        faulty("a b", 1, 3);
-        faulty("a=\u007f;", 1, 2);
+        House.faulty("a=1", 1, 3);
+        House.faulty("a=1 -- b", 1, 8);
+        House.faulty("a=;", 1, 2);
+        House.faulty("=1;", 1, 0);
+        House.faulty("a=1;;", 1, 4);
+        House.faulty("A=1;", 1, 0);
+        House.faulty("a=007;", 1, 2);
+        House.faulty("a=00;", 1, 2);
+        House.faulty("a=1234567890;", 1, 2);
+        House.faulty("abcdefghijklm=1;", 1, 0);
+        House.faulty("a=Abcdefghijklm;", 1, 2);
+        House.faulty("let=1;", 1, 0);
+        House.faulty("a=in;", 1, 2);
+        House.faulty("a=1<2<3;", 1, 5);
+        House.faulty("a=1 + \\x->x;", 1, 6);
+        House.faulty("a=#;", 1, 2);
+        House.faulty("a=\t1;", 1, 2);
+        House.faulty("a=\r\n1;", 1, 2);
+        House.faulty("a=-1;", 1, 2);
+        House.faulty("a=1-->2;", 1, 8);
+        House.faulty("a=1>2;", 1, 3);
+        House.faulty("a=\\->1;", 1, 3);
+        House.faulty("a=\\_->1;", 1, 3);
+        House.faulty("a=\\x y 1;", 1, 7);
+        House.faulty("a=();", 1, 3);
+        House.faulty("a=(1;", 1, 4);
+        House.faulty("a=1);", 1, 3);
+        House.faulty("a=let in 1;", 1, 6);
+        House.faulty("a=let b=1; in b;", 1, 11);
+        House.faulty("a=let b=1 b;", 1, 12);
+        House.faulty("a=let b=1 of b;", 1, 10);
+        House.faulty("a=let B=1 in 1;", 1, 6);
+        House.faulty("a=case 1 of 2;", 1, 12);
+        House.faulty("a=case 1 of {};", 1, 13);
+        House.faulty("a=case 1 of {1->1;};", 1, 18);
+        House.faulty("a=case 1 of {-a->1};", 1, 14);
+        House.faulty("a=case 1 of {a b->1};", 1, 15);
+        House.faulty("a=case 1 of {K 1->1};", 1, 15);
+        House.faulty("a=case 1 of {_a->1};", 1, 14);
+        House.faulty("a=case 1 {1->1};", 1, 9);
+        House.faulty("a=1+;", 1, 4);
+        House.faulty("a=_;", 1, 2);
+        House.faulty("a=1_;", 1, 3);
+        House.faulty("a==1;", 1, 1);
+        House.faulty("a b", 1, 3);
+        House.faulty("a=\u007f;", 1, 2);
     }
 
     private static void ruleFaults() {
-        about = "promise 3, rules";
-        faulty("a=b;", 2, 2);
-        faulty("a=c;b=;", 1, 6);
-        faulty("a=b;b=a;", 0, -1);
-        faulty("a b b=1;", 2, 4);
-        faulty("a=1;a=2;", 2, 4);
-        faulty("a=1;b=a;a x=2;", 2, 8);
-        faulty("a=\\b c b->1;", 2, 7);
-        faulty("a=case 1 of{K x x->1};", 2, 16);
-        faulty("a=case 1 of{K _ _->1};", 0, -1);
-        faulty("a=let x=1;x=2 in x;", 2, 10);
-        faulty("a=let x y y=1 in x;", 2, 10);
-        faulty("a=let x x=x in x;", 0, -1);
-        faulty("a=(let x=1 in x)+x;", 2, 17);
-        faulty("a=(\\x->x)x;", 2, 9);
-        faulty("a=case x of{x->x};", 2, 7);
-        faulty("a=case 1 of{x->x;_->x};", 2, 20);
-        faulty("a=let x y=1 in y;", 2, 15);
-        faulty("a=let x=y;y=x in 1;", 0, -1);
-        faulty("f a b c d e g=1;", 0, -1);
-        faulty("f a b c d e g h=1;", 2, 14);
-        faulty("a=\\b c d e f g h->1;", 2, 15);
-        faulty("a=let b c d e f g h i=1 in 1;", 2, 20);
-        faulty("a=case 1 of{K _ _ _ _ _ _->1};", 0, -1);
-        faulty("a=case 1 of{K _ _ _ _ _ _ _->1};", 2, 26);
-        faulty("a=1 1 1 1 1 1 1;", 0, -1);
-        faulty("a=1 1 1 1 1 1 1 (b);", 2, 16);
-        faulty("a=K 1 1 1 1 1 1;", 0, -1);
-        faulty("a=K 1 1 1 1 1 1 1;", 2, 16);
-        faulty("a=1*(1 1 1 1 1 1 1 1);", 2, 19);
-        faulty("a=let b=1;c=1;d=1;e=1;f=1;g=1 in 1;", 0, -1);
-        faulty("a=let b=1;c=1;d=1;e=1;f=1;g=1;h=1 in 1;", 2, 30);
-        faulty("a=let b=h;c=1;d=1;e=1;f=1;g=1;h=1 in 1;", 2, 30);
-        faulty("a=case 1 of{1->1;2->1;3->1;4->1;5->1;6->1;7->1;8->1};", 0, -1);
-        faulty("a=case 1 of{1->1;2->1;3->1;4->1;5->1;6->1;7->1;8->1;-9->1};", 2, 52);
+        about("promise 3, rules");
+        House.faulty("a=b;", 2, 2);
+        House.faulty("a=c;b=;", 1, 6);
+        House.faulty("a=b;b=a;", 0, -1);
+        House.faulty("a b b=1;", 2, 4);
+        House.faulty("a=1;a=2;", 2, 4);
+        House.faulty("a=1;b=a;a x=2;", 2, 8);
+        House.faulty("a=\\b c b->1;", 2, 7);
+        House.faulty("a=case 1 of{K x x->1};", 2, 16);
+        House.faulty("a=case 1 of{K _ _->1};", 0, -1);
+        House.faulty("a=let x=1;x=2 in x;", 2, 10);
+        House.faulty("a=let x y y=1 in x;", 2, 10);
+        House.faulty("a=let x x=x in x;", 0, -1);
+        House.faulty("a=(let x=1 in x)+x;", 2, 17);
+        House.faulty("a=(\\x->x)x;", 2, 9);
+        House.faulty("a=case x of{x->x};", 2, 7);
+        House.faulty("a=case 1 of{x->x;_->x};", 2, 20);
+        House.faulty("a=let x y=1 in y;", 2, 15);
+        House.faulty("a=let x=y;y=x in 1;", 0, -1);
+        House.faulty("f a b c d e g=1;", 0, -1);
+        House.faulty("f a b c d e g h=1;", 2, 14);
+        House.faulty("a=\\b c d e f g h->1;", 2, 15);
+        House.faulty("a=let b c d e f g h i=1 in 1;", 2, 20);
+        House.faulty("a=case 1 of{K _ _ _ _ _ _->1};", 0, -1);
+        House.faulty("a=case 1 of{K _ _ _ _ _ _ _->1};", 2, 26);
+        House.faulty("a=1 1 1 1 1 1 1;", 0, -1);
+        House.faulty("a=1 1 1 1 1 1 1 (b);", 2, 16);
+        House.faulty("a=K 1 1 1 1 1 1;", 0, -1);
+        House.faulty("a=K 1 1 1 1 1 1 1;", 2, 16);
+        House.faulty("a=1*(1 1 1 1 1 1 1 1);", 2, 19);
+        House.faulty("a=let b=1;c=1;d=1;e=1;f=1;g=1 in 1;", 0, -1);
+        House.faulty("a=let b=1;c=1;d=1;e=1;f=1;g=1;h=1 in 1;", 2, 30);
+        House.faulty("a=let b=h;c=1;d=1;e=1;f=1;g=1;h=1 in 1;", 2, 30);
+        House.faulty("a=case 1 of{1->1;2->1;3->1;4->1;5->1;6->1;7->1;8->1};", 0, -1);
+        House.faulty("a=case 1 of{1->1;2->1;3->1;4->1;5->1;6->1;7->1;8->1;-9->1};", 2, 52);
         StringBuilder forty = new StringBuilder();
         for (int i = 10; i < 50; i++) {
             forty.append("a").append(i).append("=a49;");
         }
-        faulty(forty.toString(), 0, -1);
-        faulty(forty + "b=1;c=1;", 2, forty.length());
-        faulty(forty.toString().replace("a30=a49", "a30=b") + "b=1;", 2, forty.length() - 2);
-        faulty(forty.toString().replace("a30=a49", "a30=c") + "b=1;c=1;", 2, forty.length() - 2);
+        House.faulty(forty.toString(), 0, -1);
+        House.faulty(forty + "b=1;c=1;", 2, forty.length());
+        House.faulty(forty.toString().replace("a30=a49", "a30=b") + "b=1;", 2, forty.length() - 2);
+        House.faulty(forty.toString().replace("a30=a49", "a30=c") + "b=1;c=1;", 2, forty.length() - 2);
     }
 
     private static void standingNames() {
-        about = "promise 3, 16 names";
+        about("promise 3, 16 names");
         String twelve = "a=\\b c d e f g->\\h i j k l m->";
         int at = twelve.length();
-        faulty(twelve + "\\n o p q->1;", 0, -1);
-        faulty(twelve + "\\n o p q r->1;", 2, at + 9);
-        faulty(twelve + "\\b c d e f->1;", 2, at + 9);
-        faulty(twelve + "(\\n o p q->1)(\\n o p q->1);", 0, -1);
-        faulty(twelve + "case 1 of{K _ n o p q->1};", 0, -1);
-        faulty(twelve + "case 1 of{K n o p q r->1};", 2, at + 20);
-        faulty(twelve + "\\n o p->let q=1 in 1;", 0, -1);
-        faulty(twelve + "\\n o p->let q=1;r=1 in 1;", 2, at + 16);
-        faulty(twelve + "\\n->let q r s=1;t=1 in 1;", 2, at + 12);
-        faulty(twelve + "\\n->let q r=1;t=1 in 1;", 0, -1);
-        faulty(twelve + "\\n->let q=\\r s->1;t=1 in 1;", 2, at + 13);
-        faulty(twelve + "\\n o p q->let r=z in 1;", 2, at + 14);
-        faulty(twelve + "\\n o p q->case 1 of{_->1;r->1};", 2, at + 25);
+        House.faulty(twelve + "\\n o p q->1;", 0, -1);
+        House.faulty(twelve + "\\n o p q r->1;", 2, at + 9);
+        House.faulty(twelve + "\\b c d e f->1;", 2, at + 9);
+        House.faulty(twelve + "(\\n o p q->1)(\\n o p q->1);", 0, -1);
+        House.faulty(twelve + "case 1 of{K _ n o p q->1};", 0, -1);
+        House.faulty(twelve + "case 1 of{K n o p q r->1};", 2, at + 20);
+        House.faulty(twelve + "\\n o p->let q=1 in 1;", 0, -1);
+        House.faulty(twelve + "\\n o p->let q=1;r=1 in 1;", 2, at + 16);
+        House.faulty(twelve + "\\n->let q r s=1;t=1 in 1;", 2, at + 12);
+        House.faulty(twelve + "\\n->let q r=1;t=1 in 1;", 0, -1);
+        House.faulty(twelve + "\\n->let q=\\r s->1;t=1 in 1;", 2, at + 13);
+        House.faulty(twelve + "\\n o p q->let r=z in 1;", 2, at + 14);
+        House.faulty(twelve + "\\n o p q->case 1 of{_->1;r->1};", 2, at + 25);
     }
 
     private static void nestedExes() {
-        about = "promise 3, 20 exes";
-        faulty("a=" + "(".repeat(19) + "1" + ")".repeat(19) + ";", 0, -1);
-        faulty("a=" + "(".repeat(20) + "1" + ")".repeat(20) + ";", 3, 22);
-        faulty("a=" + "(".repeat(20) + ")", 1, 22);
-        faulty("a=" + "(".repeat(20) + "1#", 3, 22);
-        faulty("a=z+" + "(".repeat(20) + "1" + ")".repeat(20) + ";", 3, 24);
-        faulty("a=" + "\\x->".repeat(19) + "1;", 2, 2 + 4 * 16 + 1);
-        faulty("a=" + "\\x->".repeat(20) + "1;", 3, 82);
-        faulty("a=" + "1+".repeat(900) + "1;", 0, -1);
-        faulty("a=" + "(1)+".repeat(400) + "(1);", 0, -1);
-        faulty("a=" + "case 1 of{_->".repeat(19) + "1" + "}".repeat(19) + ";", 0, -1);
-        faulty("a=" + "case 1 of{_->".repeat(20) + "1" + "}".repeat(20) + ";", 3, 2 + 13 * 19 + 5);
-        faulty("a=" + "let x=1 in ".repeat(15) + "(((((1)))));", 3, 2 + 11 * 15 + 5);
+        about("promise 3, 20 exes");
+        House.faulty("a=" + "(".repeat(19) + "1" + ")".repeat(19) + ";", 0, -1);
+        House.faulty("a=" + "(".repeat(20) + "1" + ")".repeat(20) + ";", 3, 22);
+        House.faulty("a=" + "(".repeat(20) + ")", 1, 22);
+        House.faulty("a=" + "(".repeat(20) + "1#", 3, 22);
+        House.faulty("a=z+" + "(".repeat(20) + "1" + ")".repeat(20) + ";", 3, 24);
+        House.faulty("a=" + "\\x->".repeat(19) + "1;", 2, 2 + 4 * 16 + 1);
+        House.faulty("a=" + "\\x->".repeat(20) + "1;", 3, 82);
+        House.faulty("a=" + "1+".repeat(900) + "1;", 0, -1);
+        House.faulty("a=" + "(1)+".repeat(400) + "(1);", 0, -1);
+        House.faulty("a=" + "case 1 of{_->".repeat(19) + "1" + "}".repeat(19) + ";", 0, -1);
+        House.faulty("a=" + "case 1 of{_->".repeat(20) + "1" + "}".repeat(20) + ";", 3, 2 + 13 * 19 + 5);
+        House.faulty("a=" + "let x=1 in ".repeat(15) + "(((((1)))));", 3, 2 + 11 * 15 + 5);
     }
 
     private static void ask() {
-        about = "promise 4";
-        PromisesTest t = new PromisesTest(20);
+        about("promise 4");
+        House t = new House(20);
         t.tape("1");
         due("ask ahead of a load", t.x.ask(1, 1), false);
         due("the tape is empty", t.x.load(1), -2);
@@ -390,8 +311,8 @@ public final class PromisesTest {
     }
 
     private static void fault() {
-        about = "promise 5";
-        PromisesTest t = new PromisesTest(20);
+        about("promise 5");
+        House t = new House(20);
         due("ahead of any", t.x.fault(0), -1);
         t.tape("a=#;");
         t.x.load(4);
@@ -413,8 +334,8 @@ public final class PromisesTest {
     }
 
     private static void runSteps() {
-        about = "promise 6, steps";
-        PromisesTest t = house(20, "f x y=x+y;");
+        about("promise 6, steps");
+        House t = House.house(20, "f x y=x+y;");
         t.asked("f 1 2", 1);
         for (int n : new int[] {-1, 20001, Integer.MIN_VALUE, Integer.MAX_VALUE}) {
             due("run " + n, t.x.run(n), -1);
@@ -436,8 +357,8 @@ public final class PromisesTest {
     }
 
     private static void runEnds() {
-        about = "promise 6, ends";
-        PromisesTest t = house(20, "h=h;i=1+i;id x=x;");
+        about("promise 6, ends");
+        House t = House.house(20, "h=h;i=1+i;id x=x;");
         t.endsAt("let x=x in x", 3, 6, 3);
         t.endsAt("h", 3, 2, 2);
         t.endsAt("h", 3, 0, 1);
@@ -464,8 +385,8 @@ public final class PromisesTest {
     }
 
     private static void runLazily() {
-        about = "promise 6, each thing at most once";
-        PromisesTest t = house(60, "nats=from 0;from n=Cons n (from (n+1));hd x=case x of{Cons h _->h};tl x=case x of{Cons _ t->t};bad=1/0;k x y=x;"
+        about("promise 6, each thing at most once");
+        House t = House.house(60, "nats=from 0;from n=Cons n (from (n+1));hd x=case x of{Cons h _->h};tl x=case x of{Cons _ t->t};bad=1/0;k x y=x;"
             + "add x y=x+y;twice f x=f (f x);");
         t.asked("let x=1+2 in x+x", 1);
         due("run", t.x.run(20000), 2);
@@ -496,8 +417,8 @@ public final class PromisesTest {
     }
 
     private static void runInRoom() {
-        about = "promise 6, room";
-        PromisesTest t = house(10, "loop n=case n of{0->5;_->case n-1 of{m->loop m}};f c=case c of{A p q->q};big=" + "K(".repeat(5) + "1" + ")".repeat(5) + ";");
+        about("promise 6, room");
+        House t = House.house(10, "loop n=case n of{0->5;_->case n-1 of{m->loop m}};f c=case c of{A p q->q};big=" + "K(".repeat(5) + "1" + ")".repeat(5) + ";");
         t.ends("loop 500", 1, 2, "5");
         t.ends("let g n=case n of{0->5;_->let m=n-1 in case m of{x->g x}} in g 500", 1, 2, "5");
         t.ends("let c=K(K(K(K(K(K(K(K(K 1))))))));f a b=c in f 1", 1, 5, "");
@@ -507,8 +428,8 @@ public final class PromisesTest {
         due("cells of the half one", t.x.about(2), 10);
         t.ends("big", 1, 2, "K .");
         due("a done definition is reached", t.x.about(8), 5);
-        t.ends(towers(5), 1, 2, "K .");
-        t.endsAt(towers(6), 5, 0, 1);
+        t.ends("let t=" + House.tower(5) + " in t", 1, 2, "K .");
+        t.endsAt("let t=" + House.tower(6) + " in t", 5, 0, 1);
         due("nothing was made", t.x.about(2), 0);
         due("a done definition is reached still", t.x.about(8), 5);
         t.endsAt("(\\x->K (x+1)) 1 2 (3+4)", 4, 5, 3);
@@ -519,8 +440,8 @@ public final class PromisesTest {
     }
 
     private static void deepAndLong() {
-        about = "promise 6, DEEP and LONG";
-        PromisesTest t = house(1500, "f n=1+f(n+1);c n=case n of{0->0;_->1+c(n-1)};");
+        about("promise 6, DEEP and LONG");
+        House t = House.house(1500, "f n=1+f(n+1);c n=case n of{0->0;_->1+c(n-1)};");
         t.endsAt("f 0", 6, 6, 1597);
         due("most frames", t.x.about(6), 400);
         due("calls", t.x.about(4), 399);
@@ -543,8 +464,8 @@ public final class PromisesTest {
     }
 
     private static void shownAsked() {
-        about = "promise 6, showing";
-        PromisesTest t = house(60, "id x=x;two x y=x;h=h;");
+        about("promise 6, showing");
+        House t = House.house(60, "id x=x;two x y=x;h=h;");
         t.ends("K", 1, 2, "K");
         t.ends("id", 1, 2, "?");
         t.ends("two 1", 1, 2, "?");
@@ -573,8 +494,8 @@ public final class PromisesTest {
     }
 
     private static void aboutAsked() {
-        about = "promise 7";
-        PromisesTest t = house(30, "xs=Cons 1 (Cons (1+1) Nil);f a b=a;");
+        about("promise 7");
+        House t = House.house(30, "xs=Cons 1 (Cons (1+1) Nil);f a b=a;");
         due("nothing asked", t.x.about(0), 0);
         t.asked("let g=f 1;y=g 2 in K y xs", 3);
         due("a frame that shows", t.x.about(5), 1);
@@ -611,7 +532,7 @@ public final class PromisesTest {
         due("no place while it goes on", t.x.about(7), -1);
         t.x.run(9);
         due("no place when it is done", t.x.about(7), -1);
-        PromisesTest u = house(30, "p=K(1+q)(2);q=1/0;");
+        House u = House.house(30, "p=K(1+q)(2);q=1/0;");
         u.asked("p", 2);
         due("WRONG", u.x.run(20000), 4);
         due("place in the program", u.x.about(7), 16);
@@ -622,8 +543,8 @@ public final class PromisesTest {
     }
 
     private static void octets() {
-        about = "promise 8";
-        PromisesTest t = house(10, "");
+        about("promise 8");
+        House t = House.house(10, "");
         due("nothing asked", t.x.octet(0), -1);
         t.ends("K 1", 2, 2, "K 1");
         due("octet 0", t.x.octet(0), 75);
@@ -636,8 +557,8 @@ public final class PromisesTest {
     }
 
     private static void definitions() {
-        about = "promise 9";
-        PromisesTest t = house(20, "f a b=a;abcdefghijkl=1;c=c;d=K d;");
+        about("promise 9");
+        House t = House.house(20, "f a b=a;abcdefghijkl=1;c=c;d=K d;");
         int[][] answers = {{2, 1, 1}, {0, 2, 12}, {0, 2, 1}, {0, 2, 1}};
         for (int k = 0; k < 4; k++) {
             for (int what = 0; what < 3; what++) {
@@ -660,9 +581,9 @@ public final class PromisesTest {
         due("c stays begun", t.x.definition(2, 1), 3);
         due("d is done", t.x.definition(3, 1), 4);
         due("f is a function", t.x.definition(0, 1), 1);
-        PromisesTest u = house(20, "");
+        House u = House.house(20, "");
         due("no definitions", u.x.definition(0, 0), -1);
-        PromisesTest v = house(20, "w=1;g n=case n of{0->1+w;_->case n-1 of{m->1+g m}};");
+        House v = House.house(20, "w=1;g n=case n of{0->1+w;_->case n-1 of{m->1+g m}};");
         v.ends("g 398", 1, 6, "");
         due("its place", v.x.about(7), 23);
         due("no frame came, so it is not begun", v.x.definition(0, 1), 2);
@@ -673,7 +594,7 @@ public final class PromisesTest {
 
     /** No call may throw, whatever it is told. */
     private static void anyArguments() {
-        about = "any arguments";
+        about("any arguments");
         int[] edges = {Integer.MIN_VALUE, -2, -1, 0, 1, 2, 5, 8, 10, 20, 40, 400, 1000, 2000, 20000, 20001, Integer.MAX_VALUE};
         for (int seed = 0; seed < 2000; seed++) {
             Random random = new Random(seed);
