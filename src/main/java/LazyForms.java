@@ -1358,11 +1358,9 @@ public final class LazyForms {
             back = 0L;
         }
 
-        /** Another program comes: nothing that was is left. */
+        /** Another program comes. The cells of the old one are found to be free when room is short. */
         void forget() {
             clear(NOTHING_ASKED);
-            cells.forgetReached();
-            cells.freeOthers();
         }
 
         void start(int ex, int itsDepth) {

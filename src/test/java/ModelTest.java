@@ -17,6 +17,9 @@ public final class ModelTest {
         "rep n x = case n of { 0 -> Nil; _ -> let r = rep (n - 1) x in Cons x r }; big = rep 300 7; len xs = case xs of { Nil -> 0; Cons _ t -> 1 + len t };"
             + "lenb a xs = case xs of { Nil -> a; Cons _ t -> case a + 1 of { b -> lenb b t } }; ones = let o = Cons 1 o in o;"
             + "tree d = case d of { 0 -> Leaf; _ -> let t = tree (d - 1) in Node t d t }; t6 = tree 6; wide = Six 1 2 3 4 5 (Six t6 t6 t6 t6 t6 t6);",
+        "app f x = f x; flip f x y = f y x; comp f g x = f (g x); fold f z xs = case xs of { Nil -> z; Cons y ys -> f y (fold f z ys) };"
+            + "iter n f x = case n of { 0 -> x; _ -> iter (n - 1) f (f x) }; xs = Cons 3 (Cons 5 (Cons 8 Nil)); six a b c d e f = a - b - c - d - e - f;"
+            + "fix f = let x = f x in x; pick n = case n of { 0 -> \\a b -> a; _ -> let m = pick (n - 1) in \\a b -> m b a }; sub = flip (\\a b -> a - b);",
     };
     private static final String[][] QUESTIONS = {
         {"take 5 nats", "sum (take 20 nats)", "acc 0 (take 50 nats)", "acc 0 (take 2000 nats)", "map inc (take 3 nats)", "map (add 3) nats", "sum nats",
@@ -26,6 +29,10 @@ public final class ModelTest {
             "bad", "p", "Pair p p", "(\\x y z -> x + y * z) 1 2", "twice const 1 2 3", "id id id 5", "1 2", "let f x = case x of { 0 -> 0; y -> f (y - 1) } in f 30",
             "let x = Pair y y; y = Pair x x in x", "let x = y; y = x in x", "True", "1 < 2", "2 <= 1", "2 == 2", "0 - 2147483647 - 1", "True + 1", "1 + True"},
         {"len big", "lenb 0 big", "big", "ones", "tree 3", "t6", "wide", "len (rep 450 1)", "lenb 0 (rep 900 1)", "Pair (lenb 0 big) (lenb 0 big)"},
+        {"let a = 5 in app (\\y -> y - a) 1", "let a = 1 + 4; g b c = a * b + c in fold g a xs", "iter 20 (comp (\\x -> x + 1) (flip (\\p q -> p - q) 3)) 0",
+            "let a = 1; b = a + 1 in app (six a b 3) 4 5 6", "comp (comp (sub 1)) sub 7 9", "pick 7 1 2", "Pair (pick 3) (sub 2)", "fix (\\s n -> case n of { 0 -> 0; _ -> n + s (n - 1) }) 30",
+            "fix (Cons 1)", "let h = six 1 2; k = h 3 in Pair (h 1 2 3 4) (k 4 5 6)", "fold (comp Cons2 (sub 1)) Nil xs", "fold (\\y ys -> let z = y * y in Cons z ys) Nil xs",
+            "let f a = \\b -> let c = a * b in \\d -> c - d * a in app (f 2 3) 4 + (app (app f 5) 6) 7", "iter 300 (sub 1) 0", "iter 9 (iter 9) (sub 1)", "fix six", "fix (\\x -> x)"},
     };
     private static final String[] NAMES = {"a", "b", "c", "d", "e", "f2", "g_", "hX"};
 

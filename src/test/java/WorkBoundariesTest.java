@@ -15,6 +15,9 @@ public final class WorkBoundariesTest extends Checks {
         fullWithAHalfOne();
         fullWithDefinitions();
         whatIsNotReachedCostsNothing();
+        whatFreeNamesHold();
+        namesStandForTheirOwn();
+        textsThatComeAgainAndAgain();
         deepWhereAFrameComes();
         deepAtALoop();
         holes();
@@ -225,6 +228,82 @@ public final class WorkBoundariesTest extends Checks {
         t.ends("let c=" + House.tower(7) + " in let w=case c of{_->" + House.tower(9) + "} in case w of{v->7}", 1, 2, "7");
         t.ends("let c=" + House.tower(7) + " in let w=case c of{_->" + House.tower(10) + "} in case w of{v->7}", 1, 5, "");
         due("w is reached, 10 cells more are too many", t.x.about(2), 8);
+    }
+
+    private static void whatFreeNamesHold() {
+        about("PART 2: free names of what is made are kept, no others");
+        House t = House.house(10, "f x=let c=" + House.tower(9) + " in 7;g x=x+g x;two x y z=x;");
+        t.ends(towerIn(9, "let f=\\y->y in K f"), 1, 2, "K .");
+        t.ends(towerIn(9, "let f y=y in K f"), 1, 2, "K .");
+        t.ends(towerIn(9, "let w=1+1 in K w"), 1, 2, "K .");
+        t.ends(towerIn(9, "let f=\\c->c in K f"), 1, 2, "K .");
+        t.ends(towerIn(9, "let f=\\y->c in K f"), 1, 5, "");
+        t.ends(towerIn(9, "let w=case 1 of{_->c} in K w"), 1, 5, "");
+        about("PART 3: REACHED from frames: of alts and y what their free names stand for; of what is wanted nothing of its ex");
+        t.ends(towerIn(9, "case K 1 of{K x->x}"), 1, 2, "1");
+        t.ends(towerIn(9, "case K 1 of{K c->c}"), 1, 2, "1");
+        t.ends(towerIn(9, "case K(K 1) of{K x->1;_->c}"), 1, 5, "");
+        t.ends(towerIn(9, "(case K(K 1) of{K x->5})+7"), 1, 2, "12");
+        t.ends(towerIn(9, "(case K(K 1) of{K x->5})+(case c of{_->7})"), 1, 5, "");
+        t.ends("K (f (" + House.tower(5) + "))", 2, 2, "K 7");
+        t.asked("K (f (" + House.tower(5) + ")) (M 1)", 2);
+        due("the part behind is held as well", t.x.run(100), 5);
+        t.ends(towerIn(9, "case two c of{h->h 1}"), 1, 2, "?");
+        t.ends("case two (" + House.tower(5) + ") of{_->" + House.tower(9) + "}", 1, 2, "K .");
+        t.ends("K ((\\x->let c=" + House.tower(9) + " in 7) 5)", 2, 2, "K 7");
+        about("promise 4: what was asked before goes");
+        t.asked("K (L (M 1)) 2", 2);
+        t.x.run(1);
+        due("L and M are reached", t.x.about(8), 2);
+        t.asked("5", 1);
+        due("nothing is reached", t.x.about(8), 0);
+        t.ends(towerIn(10, "c"), 1, 2, "K .");
+    }
+
+    private static void namesStandForTheirOwn() {
+        about("PART 3: with its own and these things; with what stood there");
+        House t = House.house(20, "f y=y;app g x=g x;flip g x y=g y x;");
+        t.ends("let x=5 in f 7+x", 1, 2, "12");
+        t.ends("let x=5 in case f 7 of{z->x-z}", 1, 2, "-2");
+        t.ends("let a=5 in app (\\y->y-a) 1", 1, 2, "-4");
+        t.ends("let a=5;h b c=a*100+b*10+c in app (flip h 1) 2", 1, 2, "521");
+        t.ends("let a=5 in app (app (\\b c->a*100+b*10+c) 6) 7", 1, 2, "567");
+        t.ends("let a=1+4 in app (\\y->y*a) (a+app (\\z->z-a) 7)", 1, 2, "35");
+        t.ends("(\\a b->let c=a-b in \\d->c*d) 9 2 (f 3)", 1, 2, "21");
+        t.ends("let x=1 in (\\x->f x) 2+(let x=3 in f x)*10+x*100", 1, 2, "132");
+    }
+
+    private static String manyMakers(int round) {
+        StringBuilder all = new StringBuilder("case Aa of{Aa->Zz" + round + ";_->1");
+        for (int i = 0; all.length() < 1900; i++) {
+            all.append("+B").append(round).append(i);
+        }
+        return all + "}";
+    }
+
+    /** Within 512 calls: what earlier texts left behind takes no place from later ones. */
+    private static void textsThatComeAgainAndAgain() {
+        about("promise 3: all that was goes");
+        House t = new House(10);
+        for (int round = 1; round <= 5; round++) {
+            t.tape("i x=x;a=" + "i 1+".repeat(360) + round + ";");
+            due("load", t.x.load(10 + 4 * 360), 2);
+            t.ends("a+i a", 1, 2, Integer.toString(2 * (360 + round)));
+        }
+        House v = new House(10);
+        for (int round = 0; round < 4; round++) {
+            String text = "a=" + manyMakers(round) + ";";
+            v.tape(text);
+            due("load", v.x.load(text.length()), 1);
+            v.ends("a", 1, 2, "Zz" + round);
+        }
+        about("promise 4: what was asked before goes");
+        House u = House.house(10, "a=Aa;");
+        for (int round = 0; round < 4; round++) {
+            u.ends(manyMakers(round), 1, 2, "Zz" + round);
+        }
+        u.ends("Aa", 1, 2, "Aa");
+        u.ends("case a of{Zz->1;Aa->2}", 1, 2, "2");
     }
 
     /** The ex inside of so many sums, each of which has its frame when the ex is worked out. */
