@@ -76,11 +76,10 @@ public final class LazyForms {
             return REFUSED;
         }
         taped = 0;
-        if (!reader.judge(n, true)) {
+        if (!reader.read(n, true)) {
             return NONE;
         }
         machine.forget();
-        reader.build();
         loaded = true;
         return definitions.size();
     }
@@ -90,10 +89,10 @@ public final class LazyForms {
             return false;
         }
         taped = 0;
-        if (!loaded || depth < 1 || depth > MOST_DEPTH || !reader.judge(n, false)) {
+        if (!loaded || depth < 1 || depth > MOST_DEPTH || !reader.read(n, false)) {
             return false;
         }
-        machine.start(reader.build(), depth);
+        machine.start(reader.question, depth);
         return true;
     }
 
@@ -300,14 +299,6 @@ public final class LazyForms {
             sizes = new Ints(MOST_TOKENS);
             size = 0;
             end = 0;
-        }
-
-        int kind(int token) {
-            return token < size ? kinds.get(token) : END;
-        }
-
-        int place(int token) {
-            return token < size ? places.get(token) : end;
         }
 
         void read(int n) {
@@ -686,6 +677,7 @@ public final class LazyForms {
         private int pass;
         private boolean program;
         private int at;
+        private int question;
         private int faultKind;
         private int faultPlace;
 
@@ -699,46 +691,44 @@ public final class LazyForms {
             faultPlace = NONE;
         }
 
-        boolean judge(int n, boolean isProgram) {
+        /** Reads a text by its grammar, by its rules and then to build its forms, as long as it has no fault. */
+        boolean read(int n, boolean isProgram) {
             tokens.read(n);
             program = isProgram;
             faultKind = 0;
             faultPlace = NONE;
-            walk(GRAMMAR);
-            if (!failed()) {
-                walk(RULES);
+            for (int turn = GRAMMAR; turn <= BUILD && !failed(); turn++) {
+                begin(turn);
+                int previous = NONE;
+                for (int k = 0; program && k < MOST_TOKENS && !failed() && kind() != Tokens.END; k++) {
+                    chain(previous);
+                    previous = at;
+                    oneDefinition(k);
+                    expect(Tokens.SEMICOLON);
+                }
+                if (!program) {
+                    question = ex(1);
+                }
+                expect(Tokens.END);
             }
-            return !failed();
+            if (failed()) {
+                return false;
+            }
+            forms.shutBehind(program);
+            return true;
         }
 
-        /** Builds what was judged latest; answers the form of a question. */
-        int build() {
+        private void begin(int itsPass) {
+            pass = itsPass;
+            at = 0;
+            standing = 0;
+            if (pass != BUILD) {
+                return;
+            }
             forms.openFor(program);
             if (program) {
                 definitions.names.cut(0);
             }
-            int form = walk(BUILD);
-            forms.shutBehind(program);
-            return form;
-        }
-
-        private int walk(int itsPass) {
-            pass = itsPass;
-            at = 0;
-            standing = 0;
-            int form = NONE;
-            if (!program) {
-                form = ex(1);
-            }
-            int previous = NONE;
-            for (int k = 0; program && k < MOST_TOKENS && !failed() && kind() != Tokens.END; k++) {
-                chain(previous);
-                previous = at;
-                oneDefinition(k);
-                expect(Tokens.SEMICOLON);
-            }
-            expect(Tokens.END);
-            return form;
         }
 
         private boolean failed() {
@@ -748,7 +738,7 @@ public final class LazyForms {
         private int fail(int kind) {
             if (!failed()) {
                 faultKind = kind;
-                faultPlace = tokens.place(at);
+                faultPlace = tokens.places.get(at);
             }
             return NONE;
         }
@@ -761,7 +751,7 @@ public final class LazyForms {
         }
 
         private int kind() {
-            return tokens.kind(at);
+            return tokens.kinds.get(at);
         }
 
         private void expect(int kind) {
@@ -789,8 +779,8 @@ public final class LazyForms {
             int body = ex(1);
             standing = 0;
             if (pass == BUILD) {
-                definitions.names.add(tokens.text, tokens.place(name), tokens.sizes.get(name));
-                int form = names == 0 ? body : forms.lambda(tokens.place(start), 0, names, body);
+                definitions.names.add(tokens.text, tokens.places.get(name), tokens.sizes.get(name));
+                int form = names == 0 ? body : forms.lambda(tokens.places.get(start), 0, names, body);
                 definitions.tell(k, names, form);
             }
         }
@@ -814,7 +804,7 @@ public final class LazyForms {
                 scope.set(standing, at);
                 standing++;
             }
-            expect(Tokens.NAME);
+            at++;
         }
 
         private boolean standsBetween(int from, int to) {
@@ -861,12 +851,12 @@ public final class LazyForms {
             expect(Tokens.ARROW);
             int body = ex(depth + 1);
             standing = from;
-            return forms.lambda(tokens.place(start), from, names, body);
+            return forms.lambda(tokens.places.get(start), from, names, body);
         }
 
         private int let(int depth) {
             int from = standing;
-            int form = forms.add(Forms.LET, tokens.place(at));
+            int form = forms.add(Forms.LET, tokens.places.get(at));
             forms.base.set(form, from);
             expect(Tokens.LET);
             standAll();
@@ -912,11 +902,11 @@ public final class LazyForms {
             expect(Tokens.EQUALS);
             int body = ex(depth + 1);
             standing = own;
-            return names == 0 ? body : forms.lambda(tokens.place(start), own, names, body);
+            return names == 0 ? body : forms.lambda(tokens.places.get(start), own, names, body);
         }
 
         private int choice(int depth) {
-            int form = forms.add(Forms.CASE, tokens.place(at));
+            int form = forms.add(Forms.CASE, tokens.places.get(at));
             expect(Tokens.CASE);
             int chosen = ex(depth + 1);
             expect(Tokens.OF);
@@ -950,41 +940,37 @@ public final class LazyForms {
             return form;
         }
 
+        /** A name or _ alone is read as the one part of a maker is. The second value has a bit for each part's name. */
         private int pattern() {
-            switch (kind()) {
-                case Tokens.MAKER: return makerPattern();
-                case Tokens.MINUS:
-                    expect(Tokens.MINUS);
-                    return numberPattern(-1);
-                case Tokens.NUMBER: return numberPattern(1);
-                case Tokens.NAME:
-                case Tokens.ANY:
-                    int form = forms.add(Forms.ALT_ANY, tokens.place(at));
-                    part(form, 0, standing);
-                    return form;
-                default: return fail(BAD_TOKEN);
+            int kind = kind();
+            if (kind == Tokens.MINUS || kind == Tokens.NUMBER) {
+                return numberPattern();
             }
-        }
-
-        private int numberPattern(int factor) {
-            int form = forms.add(Forms.ALT_NUMBER, tokens.place(at));
-            forms.value.set(form, factor * tokens.numberOf(at));
-            expect(Tokens.NUMBER);
-            return form;
-        }
-
-        private int makerPattern() {
+            boolean withMaker = kind == Tokens.MAKER;
+            if (!withMaker && !isPart(kind)) {
+                return fail(BAD_TOKEN);
+            }
+            int form = forms.add(withMaker ? Forms.ALT_MAKER : Forms.ALT_ANY, tokens.places.get(at));
+            if (withMaker) {
+                forms.value.set(form, makerOf(at));
+                at++;
+            }
+            int most = withMaker ? MOST_TOKENS : 1;
             int from = standing;
-            int form = forms.add(Forms.ALT_MAKER, tokens.place(at));
-            forms.value.set(form, makerOf(at));
-            expect(Tokens.MAKER);
             int parts = 0;
-            for (int i = 0; i < MOST_TOKENS && !failed() && isPart(kind()); i++) {
+            int named = 0;
+            for (int i = 0; i < most && !failed() && isPart(kind()); i++) {
                 demand(parts < MOST_NAMES);
-                part(form, parts, from);
+                if (kind() == Tokens.NAME) {
+                    stand(from);
+                    named |= 1 << parts;
+                } else {
+                    at++;
+                }
                 parts++;
             }
             forms.count.set(form, parts);
+            forms.second.set(form, named);
             return form;
         }
 
@@ -992,16 +978,16 @@ public final class LazyForms {
             return kind == Tokens.NAME || kind == Tokens.ANY;
         }
 
-        /** A pattern's second value has a bit for each part that a name stands for. */
-        private void part(int form, int i, int from) {
-            int named = i == 0 ? 0 : forms.second.get(form);
-            if (kind() == Tokens.NAME) {
-                stand(from);
-                named |= 1 << i;
-            } else {
-                expect(Tokens.ANY);
+        private int numberPattern() {
+            int factor = 1;
+            if (kind() == Tokens.MINUS) {
+                factor = -1;
+                at++;
             }
-            forms.second.set(form, named);
+            int form = forms.add(Forms.ALT_NUMBER, tokens.places.get(at));
+            forms.value.set(form, factor * tokens.numberOf(at));
+            expect(Tokens.NUMBER);
+            return form;
         }
 
         private static int levelOf(int kind) {
@@ -1024,7 +1010,7 @@ public final class LazyForms {
                 int sign = at;
                 at++;
                 int right = level == PRODUCT ? use(depth) : signs(level + 1, depth);
-                form = forms.sign(tokens.place(sign), tokens.kind(sign), form, right);
+                form = forms.sign(tokens.places.get(sign), tokens.kinds.get(sign), form, right);
             }
             return form;
         }
@@ -1036,11 +1022,11 @@ public final class LazyForms {
             if (!beginsAtom(kind()) || failed()) {
                 return form;
             }
-            if (tokens.kind(start) == Tokens.MAKER) {
+            if (tokens.kinds.get(start) == Tokens.MAKER) {
                 forms.addCost(form, 1);
             } else {
                 int head = form;
-                form = forms.add(Forms.USE, tokens.place(start));
+                form = forms.add(Forms.USE, tokens.places.get(start));
                 last = forms.adopt(form, NONE, head);
             }
             for (int i = 0; i < MOST_TOKENS && !failed() && beginsAtom(kind()); i++) {
@@ -1056,14 +1042,14 @@ public final class LazyForms {
             int form = NONE;
             switch (kind()) {
                 case Tokens.NAME:
-                    form = forms.name(tokens.place(token), meaning());
+                    form = forms.name(tokens.places.get(token), meaning());
                     break;
                 case Tokens.NUMBER:
-                    form = forms.add(Forms.NUMBER, tokens.place(token));
+                    form = forms.add(Forms.NUMBER, tokens.places.get(token));
                     forms.value.set(form, tokens.numberOf(token));
                     break;
                 case Tokens.MAKER:
-                    form = forms.add(Forms.MAKER, tokens.place(token));
+                    form = forms.add(Forms.MAKER, tokens.places.get(token));
                     forms.value.set(form, makerOf(token));
                     break;
                 case Tokens.OPEN:
@@ -1082,7 +1068,7 @@ public final class LazyForms {
             if (pass != BUILD) {
                 return NONE;
             }
-            int start = tokens.place(token);
+            int start = tokens.places.get(token);
             int length = tokens.sizes.get(token);
             int maker = forms.makers.find(tokens.text, start, length);
             return maker != NONE ? maker : forms.makers.add(tokens.text, start, length);
@@ -1099,7 +1085,7 @@ public final class LazyForms {
                 }
             }
             int length = tokens.sizes.get(at);
-            int k = program ? definedHere(at) : definitions.names.find(tokens.text, tokens.place(at), length);
+            int k = program ? definedHere(at) : definitions.names.find(tokens.text, tokens.places.get(at), length);
             demand(k != NONE);
             return SLOTS + k;
         }
